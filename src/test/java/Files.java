@@ -1,7 +1,5 @@
 /** Files in the states that several tests begin from. */
 final class Files {
-    static final int[] NO_STATUSES = {-1, -2, -100, 100, 101, 1000, Integer.MIN_VALUE, Integer.MAX_VALUE};
-
     private Files() {
     }
 
@@ -18,6 +16,29 @@ final class Files {
         file.mode(mode);
         file.optional(true);
         file.open(1);
+        return file;
+    }
+
+    /** Numbers below and above a range, with those that only look like 0 when their upper bits are dropped. */
+    static int[] outside(int low, int high) {
+        return new int[] {
+            low - 1, low - 2, low - 100, high + 1, high + 2, high + 100,
+            256, -256, 65536, -65536, Integer.MIN_VALUE, Integer.MAX_VALUE,
+        };
+    }
+
+    /** A file whose latest status is of a kind of exception, 0 .. 6. */
+    static FileStatus withLatestKind(int kind) {
+        FileStatus file = opened(1, 0);
+        switch (kind) {
+            case 0: file.act(0, 7); break;
+            case 1: file.act(0, 1); break;
+            case 2: file.act(1, 1); break;
+            case 3: file.act(0, 5); break;
+            case 4: file.act(2, 0); break;
+            case 5: file.act(0, 6); break;
+            default: file.act(0, 9); break;
+        }
         return file;
     }
 

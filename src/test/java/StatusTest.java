@@ -46,7 +46,7 @@ public final class StatusTest {
 
     private static void numbersThatAreNoStatus() {
         FileStatus file = new FileStatus(0);
-        for (int status : Files.NO_STATUSES) {
+        for (int status : Files.outside(0, 99)) {
             DUE.is("exception(" + status + ")", file.exception(status), FileStatus.NONE);
             DUE.is("position(" + status + ")", file.position(status), FileStatus.NONE);
             DUE.is("area(" + status + ")", file.area(status), FileStatus.NONE);

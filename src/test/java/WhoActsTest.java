@@ -11,18 +11,8 @@ public final class WhoActsTest {
         DUE.end();
     }
 
-    /** A file whose latest status is of a kind of exception. */
     private static FileStatus withLatestKind(int kind) {
-        FileStatus file = Files.opened(1, 0);
-        switch (kind) {
-            case 0: file.act(0, 7); break;
-            case 1: file.act(0, 1); break;
-            case 2: file.act(1, 1); break;
-            case 3: file.act(0, 5); break;
-            case 4: file.act(2, 0); break;
-            case 5: file.act(0, 6); break;
-            default: file.act(0, 9); break;
-        }
+        FileStatus file = Files.withLatestKind(kind);
         DUE.is("the latest status is of kind " + kind, file.exception(file.count(3)), kind);
         return file;
     }
