@@ -4,60 +4,8 @@ public final class ActTest {
 
     private static final int[] OTHER_OUTCOMES = {-1, 9, 10, Integer.MIN_VALUE, Integer.MAX_VALUE};
 
-    // By organisation and kind, then by outcome 0 .. 8; an empty row is an act that no sequential file has.
-    private static final int[][][] BY_OUTCOME = {
-        {
-            {0, 10, 90, 90, 90, 30, 51, 4, 90},
-            {},
-            {0, 90, 90, 90, 34, 30, 51, 44, 90},
-            {0, 90, 90, 90, 90, 30, 51, 44, 90},
-            {},
-            {},
-            {0, 90, 90, 90, 90, 30, 90, 90, 90},
-        },
-        {
-            {0, 10, 90, 90, 14, 30, 51, 4, 90},
-            {0, 23, 90, 90, 90, 30, 51, 4, 90},
-            {0, 90, 90, 22, 24, 30, 51, 44, 90},
-            {0, 23, 90, 90, 90, 30, 51, 44, 90},
-            {0, 23, 90, 90, 90, 30, 51, 90, 90},
-            {0, 23, 90, 90, 90, 30, 51, 90, 90},
-            {0, 90, 90, 90, 90, 30, 90, 90, 90},
-        },
-        {
-            {0, 10, 2, 90, 90, 30, 51, 4, 90},
-            {0, 23, 2, 90, 90, 30, 51, 4, 90},
-            {0, 90, 2, 22, 24, 30, 51, 44, 21},
-            {0, 23, 2, 22, 90, 30, 51, 44, 21},
-            {0, 23, 90, 90, 90, 30, 51, 90, 90},
-            {0, 23, 90, 90, 90, 30, 51, 90, 90},
-            {0, 90, 90, 90, 90, 30, 90, 90, 90},
-        },
-    };
-
-    // By organisation and mode, then by kind 0 .. 6: the check that answers, or 0 where none does.
-    private static final int[][][] BY_MODE = {
-        {
-            {0, 90, 48, 49, 90, 90, 0},
-            {47, 90, 0, 49, 90, 90, 0},
-            {0, 90, 48, 0, 90, 90, 0},
-            {47, 90, 0, 49, 90, 90, 0},
-        },
-        {
-            {0, 0, 48, 49, 49, 0, 0},
-            {47, 47, 0, 49, 49, 47, 0},
-            {0, 0, 0, 0, 0, 0, 0},
-            {47, 47, 0, 49, 49, 47, 0},
-        },
-        {
-            {0, 0, 48, 49, 49, 0, 0},
-            {47, 47, 0, 49, 49, 47, 0},
-            {0, 0, 0, 0, 0, 0, 0},
-            {47, 47, 0, 49, 49, 47, 0},
-        },
-    };
-
     public static void main(String[] args) {
+        DUE.by("Promise 4");
         everyActAnswers();
         actsOfAClosedFile();
         kindsThatAreNoneChangeNothing();
@@ -87,30 +35,21 @@ public final class ActTest {
     private static void tryAct(int organisation, int mode, int kind, int outcome) {
         FileStatus file = Files.opened(organisation, mode);
         file.act(0, 0);
-        int due = BY_MODE[organisation][mode][kind];
+        int due = Tables.modeCheck(organisation, mode, kind);
         if (due == 0) {
-            due = outcome < 0 || outcome > 8 ? 90 : BY_OUTCOME[organisation][kind][outcome];
+            due = Tables.byOutcome(organisation, kind, outcome);
         }
-        int placeBefore = file.count(1);
+        int placeDue = file.count(1);
+        if (kind == 0 || kind == 1 || kind == 5) {
+            placeDue = Tables.placeAfter(due, placeDue);
+        }
         String call = organisation + "/" + mode + ": act(" + kind + ", " + outcome + ")";
         DUE.is(call, file.act(kind, outcome), due);
-        DUE.is(call + " position", file.count(1), placeDue(kind, due, placeBefore));
+        DUE.is(call + " position", file.count(1), placeDue);
         DUE.is(call + " permit", file.count(2), kind <= 1 && due <= 4 ? 1 : 0);
         DUE.is(call + " latest status", file.count(3), due);
         DUE.is(call + " mode", file.count(0), kind == 6 && due == 0 ? FileStatus.NONE : mode);
         DUE.is(call + " latest act", file.extended(0), 10 * organisation + kind);
-    }
-
-    private static int placeDue(int kind, int status, int before) {
-        if (kind != 0 && kind != 1 && kind != 5) {
-            return before;
-        }
-        switch (status) {
-            case 0: case 2: case 4: return 1;
-            case 10: return 2;
-            case 14: case 23: case 46: return 3;
-            default: return before;
-        }
     }
 
     private static void actsOfAClosedFile() {

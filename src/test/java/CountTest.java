@@ -3,6 +3,7 @@ public final class CountTest {
     private static final Due DUE = new Due();
 
     public static void main(String[] args) {
+        DUE.by("Promise 13");
         actsAreCountedByTheirStatus();
         openingsThatSucceedAreNotCounted();
         whatIsRefusedIsNotCounted();

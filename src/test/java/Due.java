@@ -1,23 +1,31 @@
 /** Counts and prints the answers that are not as due. */
 final class Due {
+    // One fault can make a million answers wrong: beyond so many of a sentence they are only counted.
+    private static final int PRINTED_AT_MOST = 200;
+
     private String sentence = "";
     private int asked = 0;
     private int askedOfSentence = 1;
     private int wrong = 0;
+    private int wrongOfSentence = 0;
 
-    /** The document's sentence that the next answers are due by: a wrong answer is printed under it. */
+    /** The document's promise or sentence that the next answers are due by: a wrong one is printed under it. */
     void by(String nextSentence) {
         endSentence();
         sentence = nextSentence + ": ";
         askedOfSentence = 0;
+        wrongOfSentence = 0;
     }
 
-    void is(String call, int got, int want) {
+    void is(Object call, int got, int want) {
         asked++;
         askedOfSentence++;
         if (got != want) {
             wrong++;
-            System.out.println(sentence + call + " answered " + got + ", due is " + want);
+            wrongOfSentence++;
+            if (wrongOfSentence <= PRINTED_AT_MOST) {
+                System.out.println(sentence + call + " answered " + got + ", due is " + want);
+            }
         }
     }
 

@@ -3,11 +3,14 @@ public final class NewFileTest {
     private static final Due DUE = new Due();
 
     public static void main(String[] args) {
+        DUE.by("Promise 1");
         aNewFileIsClosedAndBare();
         organisationsOutsideAreHeld();
+        DUE.by("Promise 2");
         modeAnswersWhatItWas();
         wrongModesAreRefused();
         modeOfAnOpenFileIsRefused();
+        DUE.by("Promise 9");
         optionalAnswersWhatItWas();
         optionalOfAnOpenFileIsRefused();
         DUE.end();

@@ -3,6 +3,7 @@ public final class OpeningTest {
     private static final Due DUE = new Due();
 
     public static void main(String[] args) {
+        DUE.by("Promise 3");
         everyOutcomeAnswers();
         onlyZeroAndFiveOpen();
         anOpenFileIsNotOpenedAgain();
@@ -14,17 +15,6 @@ public final class OpeningTest {
         aCheckGoesAheadOfTheEnd();
         anotherOpeningForgetsTheEnd();
         DUE.end();
-    }
-
-    private static int statusDue(int mode, boolean optional, int outcome) {
-        int[] plain = {0, 35, 37, 39, 38, 30, 61};
-        if (outcome < 0 || outcome >= plain.length) {
-            return 90;
-        }
-        if (outcome == 1 && mode == 1) {
-            return 0;
-        }
-        return outcome == 1 && optional ? 5 : plain[outcome];
     }
 
     private static void everyOutcomeAnswers() {
@@ -43,7 +33,7 @@ public final class OpeningTest {
         FileStatus file = new FileStatus(organisation);
         file.mode(mode);
         file.optional(optional);
-        int due = statusDue(mode, optional, outcome);
+        int due = Tables.opening(mode, optional, outcome);
         String call = organisation + "/" + mode + "/" + optional + ": open(" + outcome + ")";
         DUE.is(call, file.open(outcome), due);
         DUE.is(call + " mode", file.count(0), due <= 9 ? mode : FileStatus.NONE);

@@ -2,61 +2,52 @@
 public final class StatusTest {
     private static final Due DUE = new Due();
 
-    private static final int[] KIND_OF_FIRST_DIGIT = {0, 1, 2, 3, 4, 5, 5, 6, 6, 6};
-
     public static void main(String[] args) {
-        everyStatusAnswers();
-        numbersThatAreNoStatus();
+        DUE.by("Promise 5");
+        everyException();
+        DUE.by("Promise 8");
+        everyPosition();
+        positionIsNotWhereItIsNow();
+        DUE.by("Promise 10");
         twoStatusesAtATime();
+        twoOfWhichOneIsNone();
+        DUE.by("Promise 11");
+        everyExtended();
         extendedTellsOrganisationAndAct();
+        DUE.by("Promise 12");
+        everyArea();
+        DUE.by("Promises 5, 8, 10, 11 and 12");
         askingChangesNothing();
         DUE.end();
     }
 
-    private static void everyStatusAnswers() {
+    private static void everyException() {
         FileStatus file = new FileStatus(2);
         for (int status = 0; status <= 99; status++) {
-            DUE.is("exception(" + status + ")", file.exception(status), KIND_OF_FIRST_DIGIT[status / 10]);
-            DUE.is("position(" + status + ")", file.position(status), positionDue(status));
-            DUE.is("area(" + status + ")", file.area(status), areaDue(status));
-            DUE.is("extended(" + status + ")", file.extended(status), 100 * status + 29);
+            DUE.is("exception(" + status + ")", file.exception(status), Tables.kindOf(status));
         }
+        for (int status : Files.outside(0, 99)) {
+            DUE.is("exception(" + status + ")", file.exception(status), FileStatus.NONE);
+        }
+        DUE.is("NONE", FileStatus.NONE, -1);
+    }
+
+    private static void everyPosition() {
+        FileStatus file = new FileStatus(2);
+        for (int status = 0; status <= 99; status++) {
+            DUE.is("position(" + status + ")", file.position(status), Tables.placeAfter(status, 0));
+        }
+        for (int status : Files.outside(0, 99)) {
+            DUE.is("position(" + status + ")", file.position(status), FileStatus.NONE);
+        }
+    }
+
+    private static void positionIsNotWhereItIsNow() {
         FileStatus lost = Files.opened(1, 0);
         lost.act(1, 1);
         DUE.is("0 is 'as it is', wherever it is", lost.position(30), 0);
         DUE.is("lost: position(0)", lost.position(0), 1);
-    }
-
-    private static int positionDue(int status) {
-        switch (status) {
-            case 0: case 2: case 4: return 1;
-            case 10: return 2;
-            case 14: case 23: case 46: return 3;
-            default: return 0;
-        }
-    }
-
-    private static int areaDue(int status) {
-        switch (status) {
-            case 0: case 2: return 1;
-            case 4: return 2;
-            default: return 0;
-        }
-    }
-
-    private static void numbersThatAreNoStatus() {
-        FileStatus file = new FileStatus(0);
-        for (int status : Files.outside(0, 99)) {
-            DUE.is("exception(" + status + ")", file.exception(status), FileStatus.NONE);
-            DUE.is("position(" + status + ")", file.position(status), FileStatus.NONE);
-            DUE.is("area(" + status + ")", file.area(status), FileStatus.NONE);
-            DUE.is("extended(" + status + ")", file.extended(status), FileStatus.NONE);
-            DUE.is("both(" + status + ", 0)", file.both(status, 0), FileStatus.NONE);
-            DUE.is("both(0, " + status + ")", file.both(0, status), FileStatus.NONE);
-            DUE.is("both(99, " + status + ")", file.both(99, status), FileStatus.NONE);
-            DUE.is("both of " + status, file.both(status, status), FileStatus.NONE);
-        }
-        DUE.is("NONE", FileStatus.NONE, -1);
+        DUE.is("asking moves nothing", lost.count(1), 3);
     }
 
     private static void twoStatusesAtATime() {
@@ -64,11 +55,30 @@ public final class StatusTest {
         for (int a = 0; a <= 99; a++) {
             for (int b = a; b <= 99; b++) {
                 // Kinds never fall as the number grows, so only equal kinds let the lesser one win.
-                boolean sameKind = KIND_OF_FIRST_DIGIT[a / 10] == KIND_OF_FIRST_DIGIT[b / 10];
-                int due = sameKind ? a : b;
+                int due = Tables.kindOf(a) == Tables.kindOf(b) ? a : b;
                 DUE.is("both(" + a + ", " + b + ")", file.both(a, b), due);
                 DUE.is("both(" + b + ", " + a + ")", file.both(b, a), due);
             }
+        }
+    }
+
+    private static void twoOfWhichOneIsNone() {
+        FileStatus file = new FileStatus(0);
+        for (int none : Files.outside(0, 99)) {
+            DUE.is("both(" + none + ", 0)", file.both(none, 0), FileStatus.NONE);
+            DUE.is("both(0, " + none + ")", file.both(0, none), FileStatus.NONE);
+            DUE.is("both(99, " + none + ")", file.both(99, none), FileStatus.NONE);
+            DUE.is("both of " + none, file.both(none, none), FileStatus.NONE);
+        }
+    }
+
+    private static void everyExtended() {
+        FileStatus file = new FileStatus(2);
+        for (int status = 0; status <= 99; status++) {
+            DUE.is("extended(" + status + ")", file.extended(status), 100 * status + 29);
+        }
+        for (int status : Files.outside(0, 99)) {
+            DUE.is("extended(" + status + ")", file.extended(status), FileStatus.NONE);
         }
     }
 
@@ -92,6 +102,16 @@ public final class StatusTest {
             file.optional(true);
             file.declarative(1, true);
             DUE.is("what is no act leaves it", file.extended(23), base + 6);
+        }
+    }
+
+    private static void everyArea() {
+        FileStatus file = new FileStatus(2);
+        for (int status = 0; status <= 99; status++) {
+            DUE.is("area(" + status + ")", file.area(status), Tables.area(status));
+        }
+        for (int status : Files.outside(0, 99)) {
+            DUE.is("area(" + status + ")", file.area(status), FileStatus.NONE);
         }
     }
 

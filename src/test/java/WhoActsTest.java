@@ -3,9 +3,11 @@ public final class WhoActsTest {
     private static final Due DUE = new Due();
 
     public static void main(String[] args) {
+        DUE.by("Promise 6");
         everyKindWithAndWithoutDeclarative();
         aDeclarativeIsForItsKindAlone();
         theLatestStatusIsMeant();
+        DUE.by("Promise 7");
         declarativeAnswersWhatItWas();
         wrongKindsAreRefused();
         DUE.end();
